@@ -1,0 +1,142 @@
+import java.io.IOException;
+import java.lang.reflect.Constructor;
+import java.lang.reflect.Field;
+import java.lang.reflect.Method;
+import java.lang.reflect.Modifier;
+import java.nio.file.Files;
+import java.nio.file.Path;
+import java.util.Arrays;
+import java.util.Set;
+import java.util.TreeSet;
+import java.util.regex.Matcher;
+import java.util.regex.Pattern;
+import java.util.stream.Collectors;
+
+/** The public face and its constants, and those rules of LANGUAGE.md that can be seen from outside. */
+public final class FaceTest {
+    private static final Set<String> CONSTANTS = Set.of("NO_SUCH_TARGET=-1", "NO_SUCH_FILE=-2", "BAD_VALUE=-3",
+            "SAME_TARGET=-4", "NOT_ALLOWED=-5", "ALREADY=-6", "CYCLE=-7", "TOO_MANY=-8", "NAME_IN_USE=-9", "NONE=-10",
+            "NOT_SAVED=-11", "LIBRARY=0", "GENERATOR=1", "TEST=2", "INTERFACE=0", "BODY=1", "GENERATED=2", "RUN=3",
+            "INTERFACE_PART=0", "BODY_PART=1");
+    private static final Set<String> METHODS = Set.of("addTarget(int,int)", "targetCount()", "addDependency(int,int,int)",
+            "removeDependency(int,int)", "addFile(int,boolean,int)", "edit(int)", "rename(int,int)", "move(int,int)",
+            "deleteFile(int)", "targetOf(int)", "nameOf(int)", "follow(int)", "clearChanges()", "directlyChanged(int)",
+            "changed(int)", "affectedTests()", "chain(int,int,int)", "impact(int,int)", "mostCritical(int)",
+            "rebuildOrder(int)", "rebuildTime()", "shardOf(int,int)", "shardLoad(int,int)", "bestGreatestLoad(int)",
+            "save(int)", "restore(int)");
+    private static final Pattern FORBIDDEN = Pattern.compile("\\b(throw|try|catch|finally|synchronized|assert|package|"
+            + "protected|native|volatile|transient|Exact|Object|System\\.(?!arraycopy\\b)|Thread|Random)\\b|->|::|[^\\x00-\\x7f]");
+
+    public static void main(String[] args) throws IOException, IllegalAccessException {
+        same("constants", publicConstants(), CONSTANTS);
+        same("methods", publicMethods(), METHODS);
+        same("what can be seen but is not in the document", otherVisibleMembers(), Set.of());
+        same("private methods with a public name", hiddenNames(), Set.of());
+        same("static fields that are no constants", staticState(), Set.of());
+        same("forbidden words", forbiddenWords(), Set.of());
+        Script.due("class", "public final", ChangeImpact.class.getModifiers(), Modifier.PUBLIC | Modifier.FINAL);
+        Script.end();
+    }
+
+    private static void same(String what, Set<String> got, Set<String> want) {
+        Set<String> more = new TreeSet<>(got);
+        more.removeAll(want);
+        Set<String> less = new TreeSet<>(want);
+        less.removeAll(got);
+        Script.due(what, "too many " + more, more.size(), 0);
+        Script.due(what, "missing " + less, less.size(), 0);
+    }
+
+    private static Set<String> publicConstants() throws IllegalAccessException {
+        Set<String> found = new TreeSet<>();
+        for (Field field : ChangeImpact.class.getDeclaredFields()) {
+            if (field.getModifiers() == (Modifier.PUBLIC | Modifier.STATIC | Modifier.FINAL) && field.getType() == int.class) {
+                found.add(field.getName() + "=" + field.getInt(null));
+            }
+        }
+        return found;
+    }
+
+    private static Set<String> publicMethods() {
+        Set<String> found = new TreeSet<>();
+        for (Method method : ChangeImpact.class.getDeclaredMethods()) {
+            if (method.getModifiers() == Modifier.PUBLIC && method.getReturnType() == int.class) {
+                found.add(method.getName() + Arrays.stream(method.getParameterTypes()).map(Class::getName)
+                        .collect(Collectors.joining(",", "(", ")")));
+            }
+        }
+        return found;
+    }
+
+    private static Set<String> otherVisibleMembers() {
+        Set<String> found = new TreeSet<>();
+        Set<String> constants = CONSTANTS.stream().map(c -> c.replaceAll("=.*", "")).collect(Collectors.toSet());
+        for (Field field : ChangeImpact.class.getDeclaredFields()) {
+            if (!Modifier.isPrivate(field.getModifiers()) && !constants.contains(field.getName())) {
+                found.add(field.toString());
+            }
+        }
+        Set<String> methods = METHODS.stream().map(m -> m.replaceAll("\\(.*", "")).collect(Collectors.toSet());
+        for (Method method : ChangeImpact.class.getDeclaredMethods()) {
+            if (!Modifier.isPrivate(method.getModifiers()) && !methods.contains(method.getName())) {
+                found.add(method.toString());
+            }
+        }
+        for (Constructor<?> constructor : ChangeImpact.class.getDeclaredConstructors()) {
+            if (constructor.getParameterCount() > 0 || !Modifier.isPublic(constructor.getModifiers())) {
+                found.add(constructor.toString());
+            }
+        }
+        for (Class<?> inside : ChangeImpact.class.getDeclaredClasses()) {
+            if (Modifier.isPublic(inside.getModifiers()) || !Modifier.isStatic(inside.getModifiers())) {
+                found.add(inside.toString());
+            }
+        }
+        return found;
+    }
+
+    private static Set<String> hiddenNames() {
+        Set<String> open = METHODS.stream().map(m -> m.replaceAll("\\(.*", "")).collect(Collectors.toSet());
+        Set<String> found = new TreeSet<>();
+        for (Method method : ChangeImpact.class.getDeclaredMethods()) {
+            if (Modifier.isPrivate(method.getModifiers()) && open.contains(method.getName())) {
+                found.add(method.toString());
+            }
+        }
+        for (Class<?> inside : ChangeImpact.class.getDeclaredClasses()) {
+            for (Method method : inside.getDeclaredMethods()) {
+                if (open.contains(method.getName())) {
+                    found.add(method.toString());
+                }
+            }
+        }
+        return found;
+    }
+
+    private static Set<String> staticState() {
+        Set<String> found = new TreeSet<>();
+        for (Field field : ChangeImpact.class.getDeclaredFields()) {
+            if (Modifier.isStatic(field.getModifiers()) && !Modifier.isFinal(field.getModifiers())) {
+                found.add(field.toString());
+            }
+        }
+        return found;
+    }
+
+    private static Set<String> forbiddenWords() throws IOException {
+        String source = Files.readString(Path.of("src/main/java/ChangeImpact.java"));
+        String code = source.replaceAll("(?s)/\\*.*?\\*/", "").replaceAll("//[^\\n]*", "");
+        Set<String> found = new TreeSet<>();
+        Matcher matcher = FORBIDDEN.matcher(code);
+        while (matcher.find()) {
+            found.add(matcher.group());
+        }
+        Matcher imports = Pattern.compile("import [^;]*").matcher(code);
+        while (imports.find()) {
+            if (!imports.group().equals("import java.util.Arrays")) {
+                found.add(imports.group());
+            }
+        }
+        return found;
+    }
+}
