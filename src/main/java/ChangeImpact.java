@@ -202,7 +202,7 @@ public final class ChangeImpact {
     }
 
     public int changed(int part) {
-        return inRange(part, PARTS) ? targetsWith(state.reached(), part) : BAD_VALUE;
+        return inRange(part, PARTS) ? targetsWith(state.targets.reachOf(state.direct), part) : BAD_VALUE;
     }
 
     public int affectedTests() {
@@ -363,7 +363,7 @@ public final class ChangeImpact {
     }
 
     private static long setOfPair(int pair) {
-        return pairsWith(setOf(pair / PARTS), pair % PARTS);
+        return 1L << (pair % PARTS * PART_SHIFT + pair / PARTS);
     }
 
     private static boolean containsPair(long pairs, int pair) {
@@ -399,12 +399,8 @@ public final class ChangeImpact {
             direct |= pairsWith(setOf(files.target[file]), part);
         }
 
-        long reached() {
-            return targets.reachOf(direct);
-        }
-
         int rebuilt() {
-            return targetsWith(reached(), BODY_PART);
+            return targetsWith(targets.reachOf(direct), BODY_PART);
         }
 
         int testsToRun() {
@@ -591,10 +587,12 @@ public final class ChangeImpact {
         final boolean[] exists = new boolean[MAX_FILES];
 
         /** For each name the file that got it last, or NONE. */
-        final int[] lastOwner = new int[NAMES];
+        final int[] lastOwner;
 
         Files() {
-            Arrays.fill(lastOwner, NONE);
+            int[] owners = new int[NAMES];
+            Arrays.fill(owners, NONE);
+            lastOwner = owners;
         }
 
         void copyFrom(Files other) {
@@ -638,19 +636,17 @@ public final class ChangeImpact {
         int length;
 
         /**
-         * Layer d holds the pairs whose shortest way to the goal has d steps. The layers go back from
-         * the goal, as the smallest sequence can then be chosen from its beginning on, the smallest
-         * pair of the next layer each time.
+         * Layer d holds the pairs from which the goal is d steps away, on one way at least. The layers
+         * go back from the goal, as the smallest sequence can then be chosen from its beginning on: the
+         * smallest pair of the next layer each time.
          */
         Chain(Targets targets, long direct, int goal) {
             long[] layers = new long[PAIRS];
-            long seen = setOfPair(goal);
-            layers[0] = seen;
+            layers[0] = setOfPair(goal);
             int last = 0;
             while (last < PAIRS - 1 && layers[last] != 0 && (layers[last] & direct) == 0) {
-                layers[last + 1] = targets.causesOfAny(layers[last]) & ~seen;
+                layers[last + 1] = targets.causesOfAny(layers[last]);
                 last++;
-                seen |= layers[last];
             }
             int next = smallestPair(layers[last] & direct);
             for (int layer = last; layer >= 0 && next != NONE; layer--) {
@@ -713,19 +709,20 @@ public final class ChangeImpact {
         int tests;
 
         Shards(Targets targets, int set, int shards) {
-            load = new int[shards];
+            int[] loads = new int[shards];
             int left = set;
             for (int i = 0; i < MAX_TESTS && left != 0; i++) {
                 int test = targets.heaviest(left);
                 if (targets.has(test)) {
-                    int shard = leastLoaded(load);
+                    int shard = leastLoaded(loads);
                     given[test] = shard;
-                    load[shard] += targets.weight[test];
+                    loads[shard] += targets.weight[test];
                     weights[i] = targets.weight[test];
                     tests++;
                     left &= ~setOf(test);
                 }
             }
+            load = loads;
         }
 
         int leastGreatestLoad() {

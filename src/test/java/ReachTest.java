@@ -367,6 +367,12 @@ public final class ReachTest {
                 mostCritical(2) = BAD_VALUE          # before NONE
                 mostCritical(-1) = BAD_VALUE
                 mostCritical(MIN) = BAD_VALUE
+                save(0) = 0
+                addTarget(TEST,1) = 0
+                mostCritical(INTERFACE_PART) = 0
+                mostCritical(BODY_PART) = 0
+                restore(0) = 0
+                mostCritical(BODY_PART) = NONE
                 addTarget(LIBRARY,5) = 0
                 mostCritical(INTERFACE_PART) = 0
                 addTarget(LIBRARY,6) = 1

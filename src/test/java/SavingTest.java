@@ -61,6 +61,7 @@ public final class SavingTest {
         slotsAreApart();
         theSlotKeepsIt();
         savingAgainOverwrites();
+        headersComeBack();
         limitsComeBack();
         Script.end();
     }
@@ -165,6 +166,33 @@ public final class SavingTest {
                 "clearChanges() = 0; addFile(0,true,51) = 1; addTarget(TEST,1) = 1; addTarget(LIBRARY,1) = 2");
         Script.run("26 an error saves nothing", STATE, "save(0) = 3", OTHER, "save(2) = BAD_VALUE; restore(0) = 3", STANDS,
                 "restore(3) = BAD_VALUE; restore(1) = NOT_SAVED", STANDS);
+    }
+
+    /** The same numbers of files, once a header and once a source. */
+    private static void headersComeBack() {
+        Script.run("27 headers and sources", """
+                addTarget(LIBRARY,1) = 0
+                save(0) = 1
+                addFile(0,true,0) = 0
+                addFile(0,false,1) = 1
+                save(1) = 1
+                restore(0) = 1
+                addFile(0,false,0) = 0
+                addFile(0,true,1) = 1
+                save(0) = 1
+                restore(1) = 1
+                clearChanges() = 2
+                edit(0) = 0
+                directlyChanged(INTERFACE_PART) = 1
+                directlyChanged(BODY_PART) = 0
+                restore(0) = 1
+                clearChanges() = 2
+                edit(0) = 0
+                directlyChanged(INTERFACE_PART) = 0
+                directlyChanged(BODY_PART) = 1
+                rename(1,5) = 1
+                directlyChanged(INTERFACE_PART) = 1
+                """);
     }
 
     private static void limitsComeBack() {
