@@ -25,7 +25,7 @@ public final class FaceTest {
             "rebuildOrder(int)", "rebuildTime()", "shardOf(int,int)", "shardLoad(int,int)", "bestGreatestLoad(int)",
             "save(int)", "restore(int)");
     private static final Pattern FORBIDDEN = Pattern.compile("\\b(throw|try|catch|finally|synchronized|assert|package|"
-            + "protected|native|volatile|transient|Exact|Object|System\\.(?!arraycopy\\b)|Thread|Random)\\b|->|::|[^\\x00-\\x7f]");
+            + "protected|native|volatile|transient|\\w+Exact|Object|System\\.(?!arraycopy\\b)|Thread|Random)\\b|->|::|[^\\x00-\\x7f]");
 
     public static void main(String[] args) throws IOException, IllegalAccessException {
         same("constants", publicConstants(), CONSTANTS);
