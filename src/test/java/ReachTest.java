@@ -9,6 +9,7 @@ public final class ReachTest {
         chain();
         chainTakesTheShortest();
         chainTakesTheSmallest();
+        chainToAndThroughThePairZero();
         longestChain();
         impact();
         mostCritical();
@@ -307,6 +308,27 @@ public final class ReachTest {
                 addFile(1,true,1) = 1
                 chain(2,0,-1) = 2
                 chain(2,0,0) = 1                     # 1 4 before 2 4
+                """);
+    }
+
+    private static void chainToAndThroughThePairZero() {
+        Script.run("18 pair 0", """
+                addTarget(LIBRARY,1) = 0
+                addTarget(LIBRARY,1) = 1
+                addTarget(LIBRARY,1) = 2
+                addDependency(0,1,INTERFACE) = 1
+                addDependency(2,0,INTERFACE) = 2
+                addFile(1,true,0) = 0
+                chain(0,0,-1) = 2
+                chain(0,0,0) = 2
+                chain(0,0,1) = 0
+                chain(0,0,2) = NONE
+                chain(2,0,-1) = 3
+                chain(2,0,0) = 2
+                chain(2,0,1) = 0
+                chain(2,0,2) = 4
+                chain(0,1,-1) = 3
+                chain(0,1,1) = 0
                 """);
     }
 
