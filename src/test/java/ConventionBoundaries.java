@@ -195,11 +195,11 @@ final class ConventionBoundaries {
                 addDependency(0,1,INTERFACE) = ALREADY
                 addDependency(1,3,BODY) = CYCLE
                 removeDependency(0,5) = NO_SUCH_TARGET
-                addFile(5,true,50) = NO_SUCH_TARGET
+                addFile(5,true,12) = NO_SUCH_TARGET    # file 2 had the name
                 addFile(4,true,100) = BAD_VALUE
                 addFile(4,true,10) = NAME_IN_USE
                 edit(3) = NO_SUCH_FILE
-                rename(3,50) = NO_SUCH_FILE
+                rename(3,12) = NO_SUCH_FILE
                 rename(0,100) = BAD_VALUE
                 rename(0,10) = NAME_IN_USE
                 rename(0,14) = NAME_IN_USE

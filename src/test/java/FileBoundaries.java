@@ -5,8 +5,8 @@ final class FileBoundaries {
     private static final int ALL = Document.DESCRIPTION;
     private static final String NO_FILE = "NO_SUCH_FILE if there is no such existing file";
 
-    /** The calls that ask for an existing file, by their promises. */
-    private static final Map<Integer, String> OF_A_FILE = Map.of(7, "edit(?)", 8, "rename(?,50)", 9, "move(?,4)",
+    /** The calls that ask for an existing file, by their promises; file 2 of SMALL had the name 12. */
+    private static final Map<Integer, String> OF_A_FILE = Map.of(7, "edit(?)", 8, "rename(?,12)", 9, "move(?,4)",
             10, "deleteFile(?)", 11, "targetOf(?)", 12, "nameOf(?)");
 
     /** A library, a generator and a test with a header and a source each; the change set is empty. */
@@ -161,6 +161,7 @@ final class FileBoundaries {
         Sentence.of(6, "NO_SUCH_TARGET if the target does not exist")
                 .refuses("one below, one above, and far off", States.SMALL,
                         States.each("addFile(?,true,50) = NO_SUCH_TARGET", -1, 5, 19, 20, 32, 33, -32, 1073741824))
+                .refuses("a name that a file had", States.SMALL, "addFile(5,true,12) = NO_SUCH_TARGET; addFile(-1,false,13) = NO_SUCH_TARGET")
                 .refuses("there is none", States.NEW, "addFile(0,true,0) = NO_SUCH_TARGET; addFile(0,false,0) = NO_SUCH_TARGET")
                 .refuses("behind the twentieth", States.twentyTargets(), "addFile(20,true,0) = NO_SUCH_TARGET; addFile(-1,false,0) = NO_SUCH_TARGET")
                 .holds("the first and the last exist", States.twentyTargets(), "addFile(0,true,0) = 0; addFile(19,true,1) = 1; targetOf(1) = 19");

@@ -105,7 +105,9 @@ final class ReachBoundaries {
                 .holds("by the interface, over the body", TWO, "addDependency(1,0,GENERATED) = 1; edit(0) = 0; changed(0) = 3; changed(1) = 3")
                 .holds("not the other way round", TWO, "addDependency(1,0,GENERATED) = 1; edit(2) = 1; changed(0) = 2; changed(1) = 2")
                 .holds("over nineteen", States.targets(0, 20, "GENERATOR", 1), States.row(20, "GENERATED"), "addFile(0,false,0) = 0; changed(0) = "
-                        + (TWENTY - 1) + "; changed(1) = " + TWENTY);
+                        + (TWENTY - 1) + "; changed(1) = " + TWENTY)
+                .holds("over nineteen, from an interface", States.targets(0, 20, "GENERATOR", 1), States.row(20, "GENERATED"),
+                        "addFile(0,true,0) = 0; changed(0) = " + TWENTY + "; changed(1) = " + TWENTY);
         Sentence.of(ALL, "A target is rebuilt if (t, BODY_PART) is changed")
                 .holds("directly", TWO, "edit(1) = 0; rebuildOrder(-1) = 1; rebuildOrder(0) = 0; rebuildTime() = 1")
                 .holds("by its interface", TWO, "edit(0) = 0; rebuildOrder(-1) = 1; rebuildOrder(0) = 0; rebuildTime() = 1")
@@ -117,6 +119,8 @@ final class ReachBoundaries {
         Sentence.of(ALL, "The changed pairs are the smallest set that contains all directly changed pairs and for which these rules hold")
                 .holds("nothing follows from nothing", States.SMALL, "clearChanges() = 1; changed(0) = 0; changed(1) = 0")
                 .holds("all directly changed pairs", States.twentyTargets(), States.fortyFiles(), "changed(0) = 1048575; changed(1) = 1048575")
+                .holds("the first and the last of them, alone", States.twentyTargets(), "addFile(0,false,0) = 0; changed(0) = 0; changed(1) = 1; clearChanges() = 1; "
+                        + "addFile(19,false,1) = 1; changed(0) = 0; changed(1) = 524288; clearChanges() = 1; addFile(19,true,2) = 2; changed(0) = 524288; changed(1) = 524288")
                 .holds("no target but them", States.twentyTargets(), "addFile(7,true,0) = 0; changed(0) = 128; changed(1) = 128")
                 .holds("by the dependencies of now", States.SMALL, "changed(0) = 9; removeDependency(0,1) = GENERATED; changed(0) = 0; changed(1) = 2; "
                         + "addDependency(0,1,INTERFACE) = 4; changed(0) = 0; changed(1) = 2; edit(0) = 0; changed(0) = 9; changed(1) = 27")
@@ -166,13 +170,18 @@ final class ReachBoundaries {
                 .leaves("-2 and one behind the last", three, "chain(1,1,-2) = NONE; chain(1,1,3) = NONE")
                 .holds("one pair", three, "chain(0,1,-1) = 1; chain(0,1,0) = 1; chain(0,1,1) = NONE; chain(0,1,-2) = NONE");
         Sentence.of(18, "Returns the number of the pair, or the number of pairs")
-                .holds("the least number and the greatest", States.FULL, "edit(0) = 0; edit(19) = 19; chain(0,0,0) = 0; chain(0,0,-1) = 1; chain(19,1,-1) = 2; chain(19,1,1) = 39");
+                .holds("the least number and the greatest", States.FULL, "edit(0) = 0; edit(19) = 19; chain(0,0,0) = 0; chain(0,0,-1) = 1; chain(19,1,-1) = 2; chain(19,1,0) = 38; chain(19,1,1) = 39; "
+                        + "chain(0,1,1) = 1");
         Sentence.of(18, "NONE if the pair is not changed, or the chain has no such index")
                 .leaves("not changed", States.SMALL, States.each("chain(1,0,?) = NONE", -1, 0, 1))
                 .leaves("no pair is changed", States.FULL, "chain(0,0,-1) = NONE; chain(0,0,0) = NONE; chain(19,1,-1) = NONE; chain(19,1,0) = NONE")
                 .leaves("no such index", States.SMALL, States.each("chain(4,1,?) = NONE", -2, 4, 5, 39, 40, 41, 64))
                 .holds("not changed any more", three, "chain(1,1,-1) = 3; clearChanges() = 1; chain(1,1,-1) = NONE; chain(0,1,0) = NONE");
+        // Each of the twenty gives two pairs of the chain.
         String forty = States.targets(0, 20, "GENERATOR", 1) + States.row(20, "GENERATED") + "addFile(0,true,0) = 0;";
+        Sentence.of(18, "NONE if the pair is not changed, or the chain has no such index")
+                .holds("not changed, at the end of forty pairs", forty, "chain(19,1,39) = 39; chain(19,1,40) = NONE; clearChanges() = 1; "
+                        + "chain(19,1,-1) = NONE; chain(19,1,0) = NONE; chain(19,1,39) = NONE");
         Sentence longest = Sentence.of(ALL, "A chain to a changed pair is a sequence of pairs that begins with a directly changed pair and ends with that pair, in which "
                 + "each pair after the first follows from the pair before it by one of the four rules");
         longest.holds("the shortest: itself", three, "chain(0,1,-1) = 1; chain(0,1,0) = 1");

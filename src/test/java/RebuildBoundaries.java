@@ -20,6 +20,8 @@ final class RebuildBoundaries {
             waits.holds(kind, two, "addDependency(0,1," + kind + ") = 1; rebuildOrder(0) = 1; rebuildOrder(1) = 0; rebuildTime() = 15");
         }
         waits.holds("not RUN", two, "addDependency(0,1,RUN) = 1; rebuildOrder(0) = 0; rebuildOrder(1) = 1; rebuildTime() = 10");
+        waits.holds("not RUN, on a smaller number", "addTarget(LIBRARY,10) = 0; addTarget(TEST,5) = 1; addDependency(1,0,RUN) = 1; addFile(0,false,0) = 0; "
+                + "addFile(1,false,1) = 1; rebuildOrder(0) = 0; rebuildOrder(1) = 1; rebuildTime() = 10");
         waits.holds("not for one that is not rebuilt", two, "addDependency(0,1,BODY) = 1; clearChanges() = 2; edit(0) = 0; rebuildOrder(-1) = 1; "
                 + "rebuildOrder(0) = 0; rebuildTime() = 5");
         waits.holds("not over one that is not rebuilt", States.targets(0, 3, "LIBRARY", 10), "addDependency(0,1,BODY) = 1; addDependency(1,2,BODY) = 2; "
@@ -77,6 +79,8 @@ final class RebuildBoundaries {
                         + "addFile(1,false,1) = 1; rebuildOrder(1) = 1; rebuildTime() = 100")
                 .holds("it waits for the slower of two", "addTarget(LIBRARY,7) = 0; addTarget(LIBRARY,50) = 1; addTarget(LIBRARY,3) = 2; addDependency(2,0,BODY) = 1; "
                         + "addDependency(2,1,BODY) = 2; addFile(0,true,0) = 0; rebuildTime() = 10; addFile(1,false,1) = 1; rebuildTime() = 53")
+                .holds("it waits for the slower of two, which is listed first", "addTarget(LIBRARY,50) = 0; addTarget(LIBRARY,7) = 1; addTarget(LIBRARY,3) = 2; "
+                        + "addDependency(2,0,BODY) = 1; addDependency(2,1,BODY) = 2; addFile(0,true,0) = 0; addFile(1,false,1) = 1; rebuildTime() = 53")
                 .holds("two ways of the same length", States.targets(0, 4, "LIBRARY", 10), "addDependency(1,0,INTERFACE) = 1; addDependency(2,0,INTERFACE) = 2; "
                         + "addDependency(3,1,BODY) = 3; addDependency(3,2,BODY) = 4; addFile(0,true,0) = 0; rebuildTime() = 30");
         Sentence.of(22, "Returns the rebuild time, 0 if no target is rebuilt")

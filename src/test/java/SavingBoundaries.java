@@ -1,6 +1,3 @@
-import java.util.ArrayList;
-import java.util.List;
-
 /** Promises 26 and 27. */
 final class SavingBoundaries {
     private static final int[] NO_SLOT = {-1, -2, 2, 3, 32, 33, 256};
@@ -18,6 +15,29 @@ final class SavingBoundaries {
             rename(1,10) = 11
             move(2,4) = 3
             deleteFile(2) = 14
+            """;
+
+    /** As SMALL without its saved slot, and with nothing that is the same under any number. */
+    private static final String MIRROR = """
+            addTarget(TEST,4) = 0
+            addTarget(LIBRARY,6) = 1
+            addTarget(GENERATOR,8) = 2
+            addTarget(GENERATOR,12) = 3
+            addTarget(LIBRARY,14) = 4
+            addTarget(LIBRARY,15) = 5
+            addDependency(0,2,RUN) = 1
+            addDependency(0,1,BODY) = 2
+            addDependency(1,3,INTERFACE) = 3
+            addDependency(3,2,GENERATED) = 4
+            addDependency(4,2,INTERFACE) = 5
+            addFile(5,false,14) = 0
+            addFile(4,true,10) = 1
+            addFile(2,false,13) = 2
+            addFile(0,true,11) = 3
+            rename(3,12) = 11
+            deleteFile(0) = 14
+            clearChanges() = 4
+            edit(2) = 2
             """;
 
     private SavingBoundaries() {
@@ -77,10 +97,14 @@ final class SavingBoundaries {
             sameAs(back, "nothing was changed, slot " + slot, States.SMALL + save, restore);
             // A larger state was in the slot, of which nothing may be left.
             String other = "(" + (slot.equals("0") ? "1" : "0") + ") = 5;";
-            String small = States.SMALL.replace("save(0) = 5", "");
-            sameAs(complete, "overwrites, slot " + slot, small + "save" + other + save,
+            sameAs(complete, "overwrites, slot " + slot, small() + "save" + other + save,
                     OTHERWISE + "save(" + slot + ") = 7; restore" + other + save + OTHERWISE + restore);
         }
+        // Two states that were built one behind the other, in both orders.
+        String one = small() + "save(0) = 5; restore(1) = 0;" + MIRROR + "save(1) = 6;";
+        String other = MIRROR + "save(1) = 6; restore(0) = 0;" + small() + "save(0) = 5;";
+        sameBehind(back, "another state has the same numbers, slot 0", "save(1) = 0;" + one + "restore(0) = 5;", "save(0) = 0;" + other);
+        sameBehind(back, "another state has the same numbers, slot 1", "save(0) = 0;" + other + "restore(1) = 6;", "save(1) = 0;" + one);
         for (int times = 1; times <= 3; times++) {
             complete.holds("saving leaves the state", States.SMALL, "save(1) = 5;".repeat(times), "directlyChanged(1) = 2; changed(1) = 27; nameOf(2) = 14; targetCount() = 5");
         }
@@ -102,10 +126,18 @@ final class SavingBoundaries {
                 + "addFile(0,true,99) = 0; directlyChanged(0) = 1; directlyChanged(1) = 0; affectedTests() = 0; impact(0,0) = 8; restore(0) = 0; follow(99) = NONE");
     }
 
+    private static String small() {
+        return States.SMALL.replace("save(0) = 5\n", "");
+    }
+
+    /** More calls change nothing in the end. */
     private static void sameAs(Sentence sentence, String which, String before, String more) {
-        sentence.holds(which, before, more);
-        List<String> with = new ArrayList<>(Sentence.callsOf(before));
-        with.addAll(Sentence.callsOf(more));
-        sentence.same(which, with, Sentence.callsOf(before));
+        sameBehind(sentence, which, before + more, before);
+    }
+
+    private static void sameBehind(Sentence sentence, String which, String calls, String others) {
+        sentence.holds(which, calls);
+        sentence.holds(which, others);
+        sentence.same(which, Sentence.callsOf(calls), Sentence.callsOf(others));
     }
 }

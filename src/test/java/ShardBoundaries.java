@@ -89,7 +89,8 @@ final class ShardBoundaries {
                 .leaves("0 without tests", States.NEW, "shardLoad(1,0) = 0; shardLoad(4,0) = 0; shardLoad(4,3) = 0")
                 .leaves("0 without affected tests", States.FULL, "shardLoad(1,0) = 0; shardLoad(4,3) = 0")
                 .holds("0 of a shard too many", States.changedTests(1, 100, 50), "shardLoad(4,0) = 100; shardLoad(4,1) = 50; shardLoad(4,2) = 1; shardLoad(4,3) = 0")
-                .holds("all on one", States.changedTests(1, 2, 4, 8, 16, 32, 64, 100, 99, 98), "shardLoad(1,0) = 424");
+                .holds("all on one", States.changedTests(1, 2, 4, 8, 16, 32, 64, 100, 99, 98), "shardLoad(1,0) = 424")
+                .holds("the most there is", States.changedTests(100, 100, 100, 100, 100, 100, 100, 100, 100, 100), "shardLoad(1,0) = 1000; shardLoad(2,1) = 500");
     }
 
     private static void bestGreatestLoad() {
@@ -99,6 +100,7 @@ final class ShardBoundaries {
                 .holds("on three", States.changedTests(5, 5, 4, 4, 3, 3, 3), "shardLoad(3,0) = 11; bestGreatestLoad(3) = 9")
                 .holds("on four", States.changedTests(7, 7, 6, 6, 5, 5, 4, 4, 4), "shardLoad(4,0) = 15; bestGreatestLoad(4) = 12")
                 .holds("the heaviest alone is the most", States.changedTests(100, 50, 49), "bestGreatestLoad(2) = 100; bestGreatestLoad(3) = 100; bestGreatestLoad(4) = 100")
+                .holds("more than an even share", States.changedTests(5, 5, 5), "bestGreatestLoad(2) = 10; bestGreatestLoad(3) = 5")
                 .holds("one more than half", States.changedTests(50, 50, 1), "bestGreatestLoad(2) = 51")
                 .holds("only the affected ones", States.changedTests(100, 7, 5), "clearChanges() = 3; edit(1) = 1; edit(2) = 2; bestGreatestLoad(1) = 12; bestGreatestLoad(2) = 7");
         Sentence.of(25, "Returns the load")
