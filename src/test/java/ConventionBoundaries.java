@@ -10,8 +10,9 @@ final class ConventionBoundaries {
 
     static void test() {
         Sentence.withoutBoundary(ALL,
-                "A change impact analyzer for a monorepo: it finds the build targets and tests that a set of file changes "
-                        + "reaches, keeping interfaces and bodies apart, orders the rebuild, and balances the tests over shards",
+                "A change impact analyzer for a monorepo: it finds the build targets and tests that a set of file "
+                + "changes reaches, keeping interfaces and bodies apart, orders the rebuild, and balances the tests over "
+                + "shards",
                 "what later calls answer is free");
         the512thCall();
         numbersOfErrors();
@@ -58,7 +59,8 @@ final class ConventionBoundaries {
     }
 
     private static void numbersOfErrors() {
-        Sentence.of(ALL, "Methods report errors with the negative constants below").holds("each of them once", States.SMALL, """
+        Sentence sentence = Sentence.of(ALL, "Methods report errors with the negative constants below");
+        sentence.holds("each of them once", States.SMALL, """
                 impact(5,0) = -1
                 edit(3) = -2
                 changed(2) = -3
@@ -74,7 +76,8 @@ final class ConventionBoundaries {
 
     /** Each pair of errors of a method that can apply at once. */
     private static void theFirstOfSeveralErrors() {
-        Sentence sentence = Sentence.of(ALL, "When several errors apply, a method returns the one that its description lists first");
+        Sentence sentence = Sentence.of(ALL, "When several errors apply, a method returns the one that its description "
+                + "lists first");
         sentence.refuses("addTarget, BAD_VALUE before TOO_MANY", States.FULL, """
                 addTarget(3,1) = BAD_VALUE
                 addTarget(-1,1) = BAD_VALUE
@@ -141,7 +144,8 @@ final class ConventionBoundaries {
                 addDependency(0,1,INTERFACE) = CYCLE
                 addDependency(0,9,BODY) = CYCLE
                 """);
-        sentence.refuses("removeDependency, NO_SUCH_TARGET of both", States.SMALL, "removeDependency(5,-1) = NO_SUCH_TARGET");
+        sentence.refuses("removeDependency, NO_SUCH_TARGET of both", States.SMALL,
+                "removeDependency(5,-1) = NO_SUCH_TARGET");
         sentence.refuses("addFile, NO_SUCH_TARGET before the others", States.SMALL, """
                 addFile(5,true,100) = NO_SUCH_TARGET           # BAD_VALUE
                 addFile(-1,false,-1) = NO_SUCH_TARGET          # BAD_VALUE
@@ -178,11 +182,13 @@ final class ConventionBoundaries {
                 shardOf(5,0) = NO_SUCH_TARGET
                 shardOf(-1,5) = NO_SUCH_TARGET
                 """);
-        sentence.refuses("shardLoad, BAD_VALUE of both", States.SMALL, "shardLoad(0,0) = BAD_VALUE; shardLoad(5,5) = BAD_VALUE");
-        sentence.refuses("restore, BAD_VALUE before NOT_SAVED", States.NEW, "restore(2) = BAD_VALUE; restore(-1) = BAD_VALUE");
+        sentence.refuses("shardLoad, BAD_VALUE of both", States.SMALL, "shardLoad(0,0) = BAD_VALUE; "
+                + "shardLoad(5,5) = BAD_VALUE");
+        sentence.refuses("restore, BAD_VALUE before NOT_SAVED", States.NEW, "restore(2) = BAD_VALUE; "
+                + "restore(-1) = BAD_VALUE");
     }
 
-    /** All refused calls in a row, against none: what one of them leaves, another might hide, so each stands alone elsewhere. */
+    /** All refused calls in a row; as one of them might hide what another leaves, each stands alone elsewhere. */
     private static void errorsChangeNothing() {
         Sentence sentence = Sentence.of(ALL, "A call that returns an error changes nothing");
         String onSmall = """
@@ -273,11 +279,13 @@ final class ConventionBoundaries {
                 rebuildOrder(4) = NONE
                 shardOf(0,1) = NONE
                 """);
-        sentence.leaves("NONE changes nothing", States.NEW, "mostCritical(0) = NONE; follow(0) = NONE; rebuildOrder(0) = NONE");
+        sentence.leaves("NONE changes nothing", States.NEW, "mostCritical(0) = NONE; follow(0) = NONE; "
+                + "rebuildOrder(0) = NONE");
     }
 
     private static void bitMasks() {
-        Sentence sentence = Sentence.of(ALL, "A set of targets is returned as a bit mask: bit t is set if target t is in the set");
+        Sentence sentence = Sentence.of(ALL, "A set of targets is returned as a bit mask: bit t is set if target t is in "
+                + "the set");
         sentence.holds("no target, bit 0, bit 19 and all twenty", States.twentyTargets(), """
                 directlyChanged(0) = 0
                 directlyChanged(1) = 0

@@ -5,7 +5,9 @@ import java.lang.reflect.Method;
 import java.lang.reflect.Modifier;
 import java.nio.file.Files;
 import java.nio.file.Path;
+import java.util.ArrayList;
 import java.util.Arrays;
+import java.util.List;
 import java.util.Set;
 import java.util.TreeSet;
 import java.util.regex.Matcher;
@@ -34,6 +36,7 @@ public final class FaceTest {
         same("private methods with a public name", hiddenNames(), Set.of());
         same("static fields that are no constants", staticState(), Set.of());
         same("forbidden words", forbiddenWords(), Set.of());
+        same("calls that throw", callsThatThrow(), Set.of());
         Script.due("class", "public final", ChangeImpact.class.getModifiers(), Modifier.PUBLIC | Modifier.FINAL);
         Script.end();
     }
@@ -118,6 +121,20 @@ public final class FaceTest {
         for (Field field : ChangeImpact.class.getDeclaredFields()) {
             if (Modifier.isStatic(field.getModifiers()) && !Modifier.isFinal(field.getModifiers())) {
                 found.add(field.toString());
+            }
+        }
+        return found;
+    }
+
+    /** Rule 7: also behind the 512th call, where any answer will do, a call may not throw. */
+    private static Set<String> callsThatThrow() {
+        ChangeImpact object = new ChangeImpact();
+        Set<String> found = new TreeSet<>();
+        List<String> calls = new ArrayList<>(Sentence.callsOf(States.FULL));
+        Looks.all().forEach(calls::addAll);
+        for (String call : calls) {
+            if (Call.of(call).on(object).startsWith("threw")) {
+                found.add(call);
             }
         }
         return found;

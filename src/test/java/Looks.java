@@ -1,5 +1,5 @@
 import java.util.ArrayList;
-import java.util.LinkedHashMap;
+import java.util.HashMap;
 import java.util.List;
 import java.util.Map;
 
@@ -11,12 +11,12 @@ final class Looks {
     private static final List<List<String>> PORTIONS = portions();
 
     /** What is seen behind calls that other tests look behind too. */
-    private static final Map<String, List<List<String>>> SEEN = new LinkedHashMap<>();
+    private static final Map<String, List<List<String>>> SEEN = new HashMap<>();
 
     private Looks() {
     }
 
-    /** The calls of the last portion and all others, portion by portion. */
+    /** The calls, portion by portion. */
     static List<List<String>> all() {
         return PORTIONS;
     }

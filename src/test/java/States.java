@@ -58,22 +58,24 @@ final class States {
     static String changedTests(int... weights) {
         StringBuilder calls = new StringBuilder();
         for (int t = 0; t < weights.length; t++) {
-            calls.append("addTarget(TEST," + weights[t] + ") = " + t + "; addFile(" + t + ",false," + t + ") = " + t + ";");
+            calls.append("addTarget(TEST," + weights[t] + ") = " + t + ";");
+            calls.append("addFile(" + t + ",false," + t + ") = " + t + ";");
         }
         return calls.toString();
     }
 
     /** The statement with each of the values in place of ?, MIN and MAX among them. */
     static String each(String statement, int... values) {
-        return Arrays.stream(values).mapToObj(value -> statement.replace("?", Integer.toString(value)))
-                .collect(Collectors.joining(";", "", ";" + statement.replace("?", "MIN") + ";" + statement.replace("?", "MAX")));
+        return Arrays.stream(values).mapToObj(Integer::toString).map(value -> statement.replace("?", value) + ";")
+                .collect(Collectors.joining()) + statement.replace("?", "MIN") + ";" + statement.replace("?", "MAX");
     }
 
     /** 0 to 9 are libraries (even) and generators (odd), 10 to 19 are tests. */
     static String twentyTargets() {
         StringBuilder calls = new StringBuilder();
         for (int t = 0; t < 20; t++) {
-            calls.append("addTarget(" + (t >= 10 ? "TEST" : t % 2 == 0 ? "LIBRARY" : "GENERATOR") + "," + (t + 1) + ") = " + t + ";");
+            String kind = t >= 10 ? "TEST" : t % 2 == 0 ? "LIBRARY" : "GENERATOR";
+            calls.append("addTarget(" + kind + "," + (t + 1) + ") = " + t + ";");
         }
         return calls.toString();
     }
@@ -85,11 +87,21 @@ final class States {
         for (int u = 1; u <= 11; u++) {
             for (int t = 0; t < (u == 11 ? 5 : u); t++) {
                 count++;
-                String kind = u >= 10 && t % 3 == 0 ? "RUN" : u % 3 == 0 && t % 2 == 1 ? "GENERATED" : t % 2 == 0 ? "BODY" : "INTERFACE";
-                calls.append("addDependency(" + u + "," + t + "," + kind + ") = " + count + ";");
+                calls.append("addDependency(" + u + "," + t + "," + kindFor(u, t) + ") = " + count + ";");
             }
         }
         return calls.toString();
+    }
+
+    /** Something of every kind that is allowed. */
+    private static String kindFor(int from, int to) {
+        if (from >= 10 && to % 3 == 0) {
+            return "RUN";
+        }
+        if (to % 2 == 0) {
+            return "BODY";
+        }
+        return from % 3 == 0 ? "GENERATED" : "INTERFACE";
     }
 
     /** For twentyTargets: a header and a source in each, the file's number is its name. */
