@@ -225,7 +225,15 @@ final class ReachBoundaries {
                 .holds("the least number and the greatest", States.FULL, "edit(0) = 0; edit(19) = 19; chain(0,0,0) = 0; "
                         + "chain(0,0,-1) = 1; chain(19,1,-1) = 2; chain(19,1,0) = 38; chain(19,1,1) = 39; "
                         + "chain(0,1,1) = 1");
+        // The body of 0 alone: nothing follows from it over these two kinds.
+        String bodyOnly = TWO + "edit(1) = 0;";
         Sentence.of(18, "NONE if the pair is not changed, or the chain has no such index")
+                .leaves("not changed by a body, INTERFACE", bodyOnly + "addDependency(1,0,INTERFACE) = 1;",
+                        "chain(1,0,-1) = NONE; chain(1,0,0) = NONE; chain(1,1,-1) = NONE; chain(0,0,-1) = NONE")
+                .leaves("not changed by a body, BODY", bodyOnly + "addDependency(1,0,BODY) = 1;",
+                        "chain(1,1,-1) = NONE; chain(1,1,0) = NONE; chain(1,0,0) = NONE")
+                .leaves("not changed by a target that depends on it", TWO + "addDependency(1,0,INTERFACE) = 1; edit(2) = 1;",
+                        "chain(0,0,-1) = NONE; chain(0,0,0) = NONE; chain(0,1,-1) = NONE")
                 .leaves("not changed", States.SMALL, States.each("chain(1,0,?) = NONE", -1, 0, 1))
                 .leaves("no pair is changed", States.FULL, "chain(0,0,-1) = NONE; chain(0,0,0) = NONE; "
                         + "chain(19,1,-1) = NONE; chain(19,1,0) = NONE")
