@@ -232,7 +232,8 @@ final class ReachBoundaries {
                         "chain(1,0,-1) = NONE; chain(1,0,0) = NONE; chain(1,1,-1) = NONE; chain(0,0,-1) = NONE")
                 .leaves("not changed by a body, BODY", bodyOnly + "addDependency(1,0,BODY) = 1;",
                         "chain(1,1,-1) = NONE; chain(1,1,0) = NONE; chain(1,0,0) = NONE")
-                .leaves("not changed by a target that depends on it", TWO + "addDependency(1,0,INTERFACE) = 1; edit(2) = 1;",
+                .leaves("not changed by a target that depends on it", TWO + "addDependency(1,0,INTERFACE) = 1; "
+                        + "edit(2) = 1;",
                         "chain(0,0,-1) = NONE; chain(0,0,0) = NONE; chain(0,1,-1) = NONE")
                 .leaves("not changed", States.SMALL, States.each("chain(1,0,?) = NONE", -1, 0, 1))
                 .leaves("no pair is changed", States.FULL, "chain(0,0,-1) = NONE; chain(0,0,0) = NONE; "
