@@ -5,10 +5,11 @@ import java.util.ArrayList;
 import java.util.LinkedHashSet;
 import java.util.List;
 import java.util.Set;
+import java.util.regex.Pattern;
 
 /**
- * The sentences of ../shared/DOC.md, promise by promise, without their last sign. What stands between
- * two semicolons is a sentence too; a line of a list is one sentence.
+ * ../shared/DOC.md: its face, its examples, and its sentences, promise by promise, without their last
+ * sign. What stands between two semicolons is a sentence too; a line of a list is one sentence.
  */
 final class Document {
     static final int PROMISES = 27;
@@ -26,6 +27,31 @@ final class Document {
         return SENTENCES.get(promise);
     }
 
+    /** The Java lines of "The public face". */
+    static String face() {
+        return found("(?s)## The public face\\s+```java\\n(.*?)```").get(0);
+    }
+
+    /** The signatures with which the promises begin, without public. */
+    static List<String> signatures() {
+        return found("(?m)^## Promise \\d+: .*\\s+`(.*)`$");
+    }
+
+    /** The constants as the description lists them, "NAME = 1, NAME = 2". */
+    static List<String> constants() {
+        return found("(?m)^- `([A-Z_]+ = .*)`: ");
+    }
+
+    /** The calls of the worked examples, with their results. */
+    static List<String> examples() {
+        return found("(?m)^\\d+\\. [^:]*: (.*)\\.$");
+    }
+
+    /** What the pattern's group holds, wherever the document has the pattern. */
+    private static List<String> found(String pattern) {
+        return Pattern.compile(pattern).matcher(text()).results().map(m -> m.group(1)).toList();
+    }
+
     private static List<Set<String>> read() {
         List<Set<String>> all = new ArrayList<>();
         for (int promise = 0; promise <= PROMISES; promise++) {
@@ -40,7 +66,7 @@ final class Document {
             } else if (title.equals("What it is")) {
                 addSentences(all.get(DESCRIPTION), body);
             } else if (title.equals("Description")) {
-                // The examples stand in ExamplesTest, the constants behind them in FaceTest.
+                // ExamplesTest runs the examples, FaceTest looks at the constants behind them.
                 addSentences(all.get(DESCRIPTION), body.replaceAll("(?s)\\nExamples: .*", ""));
             }
         }

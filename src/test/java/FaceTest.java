@@ -16,22 +16,18 @@ import java.util.stream.Collectors;
 
 /** The public face and its constants, and those rules of LANGUAGE.md that can be seen from outside. */
 public final class FaceTest {
-    private static final Set<String> CONSTANTS = Set.of("NO_SUCH_TARGET=-1", "NO_SUCH_FILE=-2", "BAD_VALUE=-3",
-            "SAME_TARGET=-4", "NOT_ALLOWED=-5", "ALREADY=-6", "CYCLE=-7", "TOO_MANY=-8", "NAME_IN_USE=-9", "NONE=-10",
-            "NOT_SAVED=-11", "LIBRARY=0", "GENERATOR=1", "TEST=2", "INTERFACE=0", "BODY=1", "GENERATED=2", "RUN=3",
-            "INTERFACE_PART=0", "BODY_PART=1");
-    private static final Set<String> METHODS = Set.of("addTarget(int,int)", "targetCount()", "addDependency(int,int,int)",
-            "removeDependency(int,int)", "addFile(int,boolean,int)", "edit(int)", "rename(int,int)", "move(int,int)",
-            "deleteFile(int)", "targetOf(int)", "nameOf(int)", "follow(int)", "clearChanges()", "directlyChanged(int)",
-            "changed(int)", "affectedTests()", "chain(int,int,int)", "impact(int,int)", "mostCritical(int)",
-            "rebuildOrder(int)", "rebuildTime()", "shardOf(int,int)", "shardLoad(int,int)", "bestGreatestLoad(int)",
-            "save(int)", "restore(int)");
+    private static final Pattern CONSTANT = Pattern.compile("([A-Z_]+) = (-?\\d+)");
+    private static final Pattern METHOD = Pattern.compile("int (\\w+)\\(([^)]*)\\)");
+    private static final Set<String> CONSTANTS = constantsIn(Document.face());
+    private static final Set<String> METHODS = methodsIn(Document.face());
     private static final Pattern FORBIDDEN = Pattern.compile("\\b(throw|try|catch|finally|synchronized|assert|package|"
             + "protected|native|volatile|transient|\\w+Exact|Object|System\\.(?!arraycopy\\b)|Thread|Random)\\b|->|::|[^\\x00-\\x7f]");
 
     public static void main(String[] args) throws IOException, IllegalAccessException {
         same("constants", publicConstants(), CONSTANTS);
+        same("constants of the description", publicConstants(), constantsIn(String.join(", ", Document.constants())));
         same("methods", publicMethods(), METHODS);
+        same("methods of the promises", publicMethods(), methodsIn(String.join("; ", Document.signatures())));
         same("what can be seen but is not in the document", otherVisibleMembers(), Set.of());
         same("private methods with a public name", hiddenNames(), Set.of());
         same("static fields that are no constants", staticState(), Set.of());
@@ -39,6 +35,22 @@ public final class FaceTest {
         same("calls that throw", callsThatThrow(), Set.of());
         Script.due("class", "public final", ChangeImpact.class.getModifiers(), Modifier.PUBLIC | Modifier.FINAL);
         Script.end();
+    }
+
+    /** "NAME=1" for each constant of a text of the document. */
+    private static Set<String> constantsIn(String text) {
+        return CONSTANT.matcher(text).results().map(m -> m.group(1) + "=" + m.group(2)).collect(Collectors.toSet());
+    }
+
+    /** "name(int,boolean)" for each method of a text of the document. */
+    private static Set<String> methodsIn(String text) {
+        return METHOD.matcher(text).results().map(m -> m.group(1) + "(" + typesOf(m.group(2)) + ")")
+                .collect(Collectors.toSet());
+    }
+
+    /** "int,boolean" for "int target, boolean header". */
+    private static String typesOf(String parameters) {
+        return Arrays.stream(parameters.split(", ")).map(p -> p.replaceAll(" .*", "")).collect(Collectors.joining(","));
     }
 
     private static void same(String what, Set<String> got, Set<String> want) {
@@ -118,9 +130,14 @@ public final class FaceTest {
 
     private static Set<String> staticState() {
         Set<String> found = new TreeSet<>();
-        for (Field field : ChangeImpact.class.getDeclaredFields()) {
-            if (Modifier.isStatic(field.getModifiers()) && !Modifier.isFinal(field.getModifiers())) {
-                found.add(field.toString());
+        List<Class<?>> classes = new ArrayList<>(List.of(ChangeImpact.class.getDeclaredClasses()));
+        classes.add(ChangeImpact.class);
+        for (Class<?> each : classes) {
+            for (Field field : each.getDeclaredFields()) {
+                boolean constant = Modifier.isFinal(field.getModifiers()) && field.getType() == int.class;
+                if (Modifier.isStatic(field.getModifiers()) && !constant) {
+                    found.add(field.toString());
+                }
             }
         }
         return found;
